@@ -41,7 +41,11 @@ public final class FrameTalk {
         if (steps < 0 || steps > Machine.STEPS_A_RUN) {
             return WRONG_STEPS;
         }
-        return machine.work(program.at(node), steps);
+        machine.begin(program.at(node), steps);
+        for (int turn = 0; turn < Machine.MOST_TURNS && machine.isAtWork(); turn++) {
+            machine.takeTurn();
+        }
+        return machine.end();
     }
 
     public long value(int i) {
@@ -243,8 +247,8 @@ public final class FrameTalk {
         /** The first FIELD of a CELL, the only one of a BOX. */
         Thing first;
         Thing second;
-        int isFor;
-        /** Null in a ROW without any; a ROW that was asked for with 0 PLACES has them, none in number. */
+        int use;
+        /** Null in a ROW without any, which a ROW that was made with 0 PLACES is not. */
         Thing[] places;
 
         Thing(int number, int kind) {
@@ -265,7 +269,7 @@ public final class FrameTalk {
         }
 
         boolean isRowFor(Thing put) {
-            switch (isFor) {
+            switch (use) {
                 case FOR_CELLS:
                     return put == null || put.isA(CELL);
                 case FOR_DUOS:
@@ -282,7 +286,7 @@ public final class FrameTalk {
                 case 2:
                     return kind == ROW ? placesOrNone() : numberOf(first);
                 case 3:
-                    return kind == ROW ? isForOrNone() : numberOf(second);
+                    return kind == ROW ? useOrNone() : numberOf(second);
                 default:
                     return NONE;
             }
@@ -292,8 +296,8 @@ public final class FrameTalk {
             return places == null ? NONE : places.length;
         }
 
-        private int isForOrNone() {
-            return places == null ? NONE : isFor;
+        private int useOrNone() {
+            return places == null ? NONE : use;
         }
 
         private static int numberOf(Thing told) {
@@ -328,11 +332,11 @@ public final class FrameTalk {
         }
 
         /** Without any PLACES where there is no room for them; the caller has asked that ahead. */
-        Thing row(int isFor, int places) {
+        Thing row(int use, int places) {
             Thing row = rowWithoutPlaces();
             if (hasRoomFor(places)) {
                 placesUsed += places;
-                row.isFor = isFor;
+                row.use = use;
                 row.places = new Thing[places];
             }
             return row;
@@ -344,8 +348,8 @@ public final class FrameTalk {
     }
 
     /**
-     * A NODE at work. Frames form a chain from the run outward in, and are used again by later
-     * NODES of the same DEPTH; the outermost one, at DEPTH 0, only gets what the run gives.
+     * A NODE at work. Frames form a chain, one a DEPTH, and are used again by later NODES of that
+     * DEPTH; the outermost one, at DEPTH 0, has no NODE and only gets what the run gives.
      */
     private static final class Frame {
         static final int NOT_BEGUN = -1;
@@ -413,7 +417,7 @@ public final class FrameTalk {
         private static final int SLOTS = 256;
         private static final int MOST_DEPTH = 200;
         /** A STEP leads to a few turns at most, so no run comes near this. */
-        private static final int MOST_TURNS = 1000000;
+        static final int MOST_TURNS = 1000000;
 
         private static final int LATEST_RUN = -1;
         private static final int STEPS_SPENT = -1;
@@ -479,20 +483,7 @@ public final class FrameTalk {
             gave = null;
         }
 
-        int work(Node node, int steps) {
-            begin(steps);
-            if (node == null) {
-                failAt(NONE, MISSING);
-            } else {
-                open(node);
-            }
-            for (int turn = 0; turn < MOST_TURNS && top.depth > 0 && !spent; turn++) {
-                takeTurn(top);
-            }
-            return end();
-        }
-
-        private void begin(int steps) {
+        void begin(Node node, int steps) {
             stepsAllowed = Math.min(steps, STEPS_EVER - stepsUsedEver);
             stepsTaken = 0;
             spent = false;
@@ -500,21 +491,20 @@ public final class FrameTalk {
             gave = null;
             outermost.begin(null);
             top = outermost;
+            if (node == null) {
+                failAt(NONE, MISSING);
+            } else {
+                open(node);
+            }
         }
 
-        private int end() {
-            stepsUsedEver += stepsTaken;
-            if (spent) {
-                return STEPS_SPENT;
-            }
-            if (faultKind != 0) {
-                return 1 + faultKind;
-            }
-            gave = outermost.latest;
-            return 0;
+        boolean isAtWork() {
+            return top.depth > 0 && !spent;
         }
 
-        private void takeTurn(Frame frame) {
+        /** Opens a PART of the innermost frame, finishes that frame, or passes a fault outward. */
+        void takeTurn() {
+            Frame frame = top;
             if (faultKind != 0) {
                 passFault(frame);
                 return;
@@ -528,6 +518,18 @@ public final class FrameTalk {
             } else {
                 workPart(frame, which);
             }
+        }
+
+        int end() {
+            stepsUsedEver += stepsTaken;
+            if (spent) {
+                return STEPS_SPENT;
+            }
+            if (faultKind != 0) {
+                return 1 + faultKind;
+            }
+            gave = outermost.latest;
+            return 0;
         }
 
         private void open(Node node) {
@@ -785,8 +787,8 @@ public final class FrameTalk {
             if (lacks(frame, frame.b, Thing.NUM)) {
                 return null;
             }
-            int isFor = frame.node.get(Node.A);
-            if (isFor < Thing.FOR_ALL || isFor > Thing.FOR_DUOS) {
+            int use = frame.node.get(Node.A);
+            if (use < Thing.FOR_ALL || use > Thing.FOR_DUOS) {
                 return maker.rowWithoutPlaces();
             }
             int places = (int) frame.b.value;
@@ -796,7 +798,7 @@ public final class FrameTalk {
             if (!maker.hasRoomFor(places)) {
                 return failAt(frame.node.number, NO_ROOM);
             }
-            return maker.row(isFor, places);
+            return maker.row(use, places);
         }
 
         /** Whether PUT and AT have no PLACE to work on, which is a fault then. */

@@ -14,6 +14,8 @@ public final class StepsTest {
         due(check, x, "SEND 0 works C, too", x.node(Check.SEND, x.node(Check.BOX, three, 0, 0), 0, zero), 4);
         due(check, x, "STORE", x.node(Check.STORE, x.node(Check.CELL, zero, zero, 0), 0, zero), 5);
         due(check, x, "TRY without a fault", x.node(Check.TRY, three, 0, zero), 2);
+        due(check, x, "PUT", x.node(Check.PUT, x.node(Check.ROW, 0, three, 0), zero, three), 5);
+        due(check, x, "SEQ", x.node(Check.SEQ, three, zero, 0), 3);
         int faulty = x.node(Check.GET, -1, 0, 0);
         due(check, x, "TRY with a fault", x.node(Check.TRY, faulty, 0, zero), 3);
         due(check, x, "TRY of nothing", x.node(Check.TRY, -1, 0, zero), 2);
