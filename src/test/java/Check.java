@@ -1,3 +1,5 @@
+import java.util.function.Consumer;
+
 /** Counts the answers of one test that are not as due; what a test prints and how it ends. */
 final class Check {
     static final int GET = 1;
@@ -53,6 +55,29 @@ final class Check {
         due(what + " (fault)", x.fault(), kind);
         due(what + " (faultNode)", x.faultNode(), at);
         due(what + " (what it gave)", x.thing(-1, 0), 0);
+    }
+
+    /** A call that is to change nothing: an object that was made likewise but had no such call tells so. */
+    void dueUnchanged(String what, Consumer<FrameTalk> made, Consumer<FrameTalk> call) {
+        FrameTalk called = new FrameTalk();
+        FrameTalk other = new FrameTalk();
+        made.accept(called);
+        made.accept(other);
+        call.accept(called);
+        dueSame(what, called, other);
+    }
+
+    /** Two objects of which later calls are to show the same; both are used up. */
+    void dueSame(String what, FrameTalk got, FrameTalk want) {
+        String[] gotLines = State.of(got).split("\n");
+        String[] wantLines = State.of(want).split("\n");
+        due(what + " (lines of the state)", gotLines.length, wantLines.length);
+        for (int i = 0; i < Math.min(gotLines.length, wantLines.length); i++) {
+            if (!gotLines[i].equals(wantLines[i])) {
+                wrong++;
+                System.out.println(what + ": the state has " + gotLines[i] + ", due is " + wantLines[i]);
+            }
+        }
     }
 
     void end() {

@@ -1,20 +1,7 @@
 /** What each OP from 1 to 20 does, as the document's text block has it. */
-public final class OpsTest {
+public final class OpsTest extends Bench {
     private static final int NUM = 1;
     private static final int ROW_KIND = 5;
-
-    private final Check check = new Check();
-    private FrameTalk x;
-    private int none;
-    private int zero;
-    private int one;
-    private int two;
-    private int cell;
-    private int duo;
-    private int box;
-    private int row;
-    private int bare;
-    private int faultThing;
 
     public static void main(String[] args) {
         OpsTest test = new OpsTest();
@@ -32,24 +19,6 @@ public final class OpsTest {
         test.flow();
         test.looksFromTheLeft();
         test.check.end();
-    }
-
-    private void fresh() {
-        x = new FrameTalk();
-        none = x.node(Check.GET, 99, 0, 0);
-        zero = x.lit(0);
-        one = x.lit(1);
-        two = x.lit(2);
-        cell = x.node(Check.CELL, one, two, 0);
-        duo = x.node(Check.DUO, one, two, 0);
-        box = x.node(Check.BOX, two, 0, 0);
-        row = x.node(Check.ROW, 0, two, 0);
-        bare = x.node(Check.ROW, 3, two, 0);
-        faultThing = x.node(Check.HOLD, two, 0, 0);
-    }
-
-    private void dueFaultHere(String what, int node, int kind) {
-        check.dueFault(what, x, node, kind, node);
     }
 
     /** Every THING but the kinds that are asked for is a fault 3, nothing is a fault 1. */
@@ -76,7 +45,6 @@ public final class OpsTest {
             dueFaultHere("SET " + slot, x.node(Check.SET, slot, one, 0), 2);
             check.due("STEPS of SET " + slot, x.steps(), 2);
         }
-        int bad = x.node(Check.GET, 256, 0, 0);
         check.dueFault("B's fault comes first", x, x.node(Check.SET, -1, bad, 0), 2, bad);
         check.dueValue("SET 255", x, x.node(Check.SET, 255, two, 0), 2);
         check.dueValue("GET 255", x, x.node(Check.GET, 255, 0, 0), 2);
@@ -273,7 +241,6 @@ public final class OpsTest {
 
     private void tries() {
         fresh();
-        int bad = x.node(Check.GET, 256, 0, 0);
         int deep = x.node(Check.BOX, bad, 0, 0);
         check.dueValue("no fault", x, x.node(Check.TRY, two, 0, bad), 2);
         check.due("SLOT 0", x.thing(0, 0), 0);
@@ -329,7 +296,6 @@ public final class OpsTest {
 
     private void flow() {
         fresh();
-        int bad = x.node(Check.GET, 256, 0, 0);
         check.dueValue("SEQ", x, x.node(Check.SEQ, one, two, 0), 2);
         check.dueKind("SEQ gives nothing", x, x.node(Check.SEQ, one, none, 0), 0);
         check.dueFault("SEQ ends by A's fault", x, x.node(Check.SEQ, bad, two, 0), 2, bad);
@@ -373,7 +339,6 @@ public final class OpsTest {
         dueFaultHere("A a CELL, B nothing", x.node(Check.AT, cell, none, 0), 3);
         dueFaultHere("A a ROW, B nothing", x.node(Check.AT, row, none, 0), 1);
         dueFaultHere("A a ROW, B a FAULT", x.node(Check.AT, row, faultThing, 0), 3);
-        int bad = x.node(Check.GET, 256, 0, 0);
         check.dueFault("all are worked ahead of that", x, x.node(Check.PUT, none, cell, bad), 2, bad);
         int first = x.node(Check.SET, 1, one, 0);
         int second = x.node(Check.SET, 1, two, 0);
