@@ -19,6 +19,7 @@ public final class CallBoundsTest extends Bench {
         test.litBeyond4000();
         test.nodeOfAnotherOp();
         test.nodeOfNoneSuchNow();
+        test.eachPartOfNoneSuchNow();
         test.nodeBeyond4000();
         test.partOfNoNodeOrAnotherWhich();
         test.partOfNoneSuchNow();
@@ -156,6 +157,31 @@ public final class CallBoundsTest extends Bench {
         int behind = x.node(Check.BOX, 1, 0, 0);
         x.lit(3);
         dueFaultHere("a number from ahead of wipe is none such", behind, 1);
+    }
+
+    // Promises 3 and 4, the same for each PART of each OP: a NODE that is made later doesn't become the PART
+    private void eachPartOfNoneSuchNow() {
+        for (int op = 2; op <= 20; op++) {
+            for (int i = 0; i < GREAT[op].length(); i++) {
+                int which = GREAT[op].charAt(i) - 'A';
+                String what = "OP " + op + ", PART " + which;
+                freshWithLeaves();
+                int[] parts = reaching(op, which);
+                int next = x.lit(0) + 1;
+                int fit = parts[which];
+                parts[which] = next + 1;
+                int node = nodeOf(op, parts);
+                check.due(what + ", its number", node, next);
+                check.due(what + ", the NODE that it was told", x.lit(0), next + 1);
+                dueFaultHere(what + " was none such by node", node, 1);
+                check.due(what + " becomes the next one", x.part(node, which, next + 2), 0);
+                check.due(what + ", that one", x.lit(0), next + 2);
+                dueFaultHere(what + " was none such by part", node, 1);
+                check.due(what + " becomes one that there is", x.part(node, which, fit), 0);
+                check.due(what + ", then it is worked", x.run(node, 10), op == Check.RAISE ? 2 : 0);
+                check.due(what + ", NODE of the fault", x.faultNode(), op == Check.RAISE ? node : -1);
+            }
+        }
     }
 
     // Promise 3: "-1: .. or there are 4000."

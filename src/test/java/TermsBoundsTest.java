@@ -3,12 +3,6 @@
  * boundary case. The sentence stands above its test.
  */
 public final class TermsBoundsTest extends Bench {
-    /** The PARTS of each OP that the document tells by great letters. */
-    private static final String[] GREAT = {
-        "", "", "B", "AB", "AB", "A", "A", "AC", "A", "A", "AC",
-        "B", "ABC", "AB", "A", "AC", "A", "A", "AB", "ABC", "AB"
-    };
-
     public static void main(String[] args) {
         TermsBoundsTest test = new TermsBoundsTest();
         test.isUsedFor512Calls();
@@ -29,47 +23,6 @@ public final class TermsBoundsTest extends Bench {
         test.looksFromTheLeft();
         test.whatWasDoneStays();
         test.check.end();
-    }
-
-    /** Puts a CELL, a DUO, a BOX and a ROW into SLOTS, so that one STEP gives each of them. */
-    private void freshWithLeaves() {
-        fresh();
-        cell = keep(1, cell);
-        duo = keep(2, duo);
-        box = keep(3, box);
-        row = keep(4, row);
-    }
-
-    /** PARTS with which the OP (not RAISE) is no fault, each worked in one STEP. */
-    private int[] fitting(int op) {
-        switch (op) {
-            case Check.GET:
-                return new int[] {5, -1, -1};
-            case Check.SET:
-                return new int[] {5, one, -1};
-            case Check.FIELD:
-            case Check.STORE:
-                return new int[] {cell, 0, one};
-            case Check.LEFT:
-            case Check.RIGHT:
-                return new int[] {duo, -1, -1};
-            case Check.SEND:
-                return new int[] {box, 2, one};
-            case Check.ROW:
-                return new int[] {0, two, -1};
-            case Check.PUT:
-            case Check.AT:
-            case Check.SIZE:
-                return new int[] {row, zero, one};
-            case Check.TRY:
-                return new int[] {one, 2, two};
-            default:
-                return new int[] {one, two, zero};
-        }
-    }
-
-    private int nodeOf(int op, int[] parts) {
-        return x.node(op, parts[0], parts[1], parts[2]);
     }
 
     // "An object is used for at most 512 calls after it has been made; what later calls answer is free."
@@ -368,12 +321,7 @@ public final class TermsBoundsTest extends Bench {
         for (int op = 2; op <= 20; op++) {
             for (int i = 0; i < GREAT[op].length(); i++) {
                 int which = GREAT[op].charAt(i) - 'A';
-                int[] parts = fitting(op);
-                if (which == 2 && op == Check.IF) {
-                    parts[0] = zero;
-                } else if (which == 2 && op == Check.TRY) {
-                    parts[0] = bad;
-                }
+                int[] parts = reaching(op, which);
                 parts[which] = -1;
                 int ahead = op == Check.IF && which == 2 ? 1 : i;
                 int node = nodeOf(op, parts);
