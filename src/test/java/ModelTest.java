@@ -2,8 +2,10 @@ import java.util.Random;
 
 /** Many made-up runs of up to 512 calls, each answer of FrameTalk compared with the Model's. */
 public final class ModelTest {
-    private static final int OBJECTS = 5000;
+    private static final int OBJECTS = 40000;
     private static final int CALLS = 512;
+    private static final int CALLS_OF_ASK_SLOT = 7;
+    private static final int CALLS_OF_ASK_ALL = 3 + 2 * CALLS_OF_ASK_SLOT;
     private static final long[] VALUES = {
         0, 0, 0, 1, 1, 1, 2, 2, 3, 3, 7, -1, -7, 250, 6000, 20001, 1L << 31, (1L << 32) + 1,
         Long.MAX_VALUE, Long.MIN_VALUE
@@ -50,11 +52,12 @@ public final class ModelTest {
         model = new Model();
         count = 0;
         int calls = 0;
-        while (calls < CALLS) {
+        while (calls + 1 + CALLS_OF_ASK_ALL <= CALLS) {
             calls += oneRound();
         }
     }
 
+    /** How many calls it made. */
     private int oneRound() {
         int chosen = random.nextInt(100);
         if (chosen < 15) {
@@ -67,11 +70,13 @@ public final class ModelTest {
             return runAndAsk();
         } else if (chosen < 99) {
             askSlot(anyInt(6));
+            return CALLS_OF_ASK_SLOT;
         } else if (random.nextInt(3) == 0) {
             x.wipe();
             model.wipe();
             count = 0;
             askAll("wipe()");
+            return 1 + CALLS_OF_ASK_ALL;
         }
         return 1;
     }
@@ -118,7 +123,7 @@ public final class ModelTest {
             answers[got + 2]++;
         }
         askAll(call);
-        return 9;
+        return 1 + CALLS_OF_ASK_ALL;
     }
 
     private void askAll(String behind) {

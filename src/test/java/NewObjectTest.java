@@ -3,9 +3,10 @@ public final class NewObjectTest {
     public static void main(String[] args) {
         Check check = new Check();
         FrameTalk x = new FrameTalk();
+        FrameTalk w = new FrameTalk();
         for (int slot = 0; slot < 256; slot++) {
             check.due("thing(" + slot + ", 0)", x.thing(slot, 0), 0);
-            check.due("value(" + slot + ")", x.value(slot), 0);
+            check.due("value(" + slot + ")", w.value(slot), 0);
         }
         check.due("thing(-1, 0)", x.thing(-1, 0), 0);
         check.due("value(-1)", x.value(-1), 0);
